@@ -674,7 +674,6 @@ public final class ArborescenceFinder {
             count = 0;
             for (int v = 0; v < nodeCount; v++) {
                 add(1 << v);
-                entering[v] = NOTHING;
             }
         }
 
@@ -956,13 +955,12 @@ public final class ArborescenceFinder {
                 return;
             }
             for (int a = 0; a < graph.arcCount; a++) {
-                int newBound = bound + search.reduced[a];
-                if (graph.headOf[a] == head && search.isUseful(newBound)
+                if (graph.headOf[a] == head && search.isUseful(bound + search.reduced[a])
                         && search.canTake(graph, a)) {
                     int tail = graph.tailOf[a];
                     search.chosen[head] = a;
                     search.arcsLeft[tail]--;
-                    choose(search, graph, head + 1, newBound);
+                    choose(search, graph, head + 1, bound + search.reduced[a]);
                     search.arcsLeft[tail]++;
                     search.chosen[head] = NOTHING;
                 }
@@ -1079,40 +1077,21 @@ public final class ArborescenceFinder {
             }
         }
 
-        /** By the elimination of Bareiss, in which each division leaves no rest. */
+        /**
+         * By the elimination of Bareiss, in which each division leaves no rest. No rows are
+         * exchanged: in each row the entry on the diagonal is at least as great as all others
+         * together, so where it is 0, the whole row is.
+         */
         private long determinant(int size) {
-            long sign = 1;
             long before = 1;
             for (int k = 0; k < size; k++) {
-                int row = rowWithPivot(k, size);
-                if (row == NOTHING || before == 0) {
+                if (matrix[k][k] == 0) {
                     return 0;
-                }
-                if (row != k) {
-                    swapRows(row, k);
-                    sign = -sign;
                 }
                 eliminate(k, size, before);
                 before = matrix[k][k];
             }
-            return sign * before;
-        }
-
-        private int rowWithPivot(int column, int size) {
-            for (int i = column; i < size; i++) {
-                if (matrix[i][column] != 0) {
-                    return i;
-                }
-            }
-            return NOTHING;
-        }
-
-        private void swapRows(int one, int other) {
-            for (int j = 0; j < MAX_NODES; j++) {
-                long entry = matrix[one][j];
-                matrix[one][j] = matrix[other][j];
-                matrix[other][j] = entry;
-            }
+            return before;
         }
 
         private void eliminate(int k, int size, long before) {
