@@ -166,6 +166,11 @@ public final class BoundaryTest {
                 + " group(13, 1) = 94; group(1, 2) = 8; group(2, 2) = 8; group(3, 2) = 9; group(7, 2) = 13;"
                 + " group(8, 2) = 9; group(12, 2) = 13; group(13, 2) = NONE; group(0, 2) = NONE");
 
+        // A group that has node 0 is a part as a whole.
+        run("begin(4, 3); addArc(1, 0, 1); addArc(0, 1, 1); addArc(2, 1, 5); addArc(0, 2, 1); addArc(3, 2, 9);"
+                + " group(4, 0) = 3; group(5, 0) = 7; group(0, 2) = 4; group(1, 2) = 4; group(2, 2) = 5; group(4, 2) = 5;"
+                + " group(5, 2) = NONE; group(5, 1) = 8; cost() = 15");
+
         says(TERMS, "the part that contains the head of this arc is entered by this arc, too, and each other part is "
                 + "entered by its own selected arc");
         run(nested + "cost() = 99; enteringArc(0) = NONE; enteringArc(1) = 12; enteringArc(2) = 1; enteringArc(3) = 3;"
@@ -190,6 +195,16 @@ public final class BoundaryTest {
         run(pair + "addArc(0, 2, 8); addArc(0, 1, 10); group(3, 1) = 7; enteringArc(2) = 2; enteringArc(1) = 0");
         run(pair + "addArc(0, 1, 10); addArc(0, 2, 8); group(3, 1) = 7; enteringArc(1) = 2; enteringArc(2) = 1");
         run(pair + "addArc(0, 2, 9); addArc(0, 1, 10); group(3, 1) = 7; enteringArc(1) = 3; enteringArc(2) = 1");
+
+        says(TERMS, "Each group has a dual value, 0 at first, and each group other than that of the root may have a "
+                + "selected arc.");
+        run("begin(2, 0); addArc(0, 1, 5); addArc(1, 0, 6); cost() = 5; group(0, 1) = 0; group(1, 1) = 5; setRoot(1);"
+                + " cost() = 6; group(0, 1) = 6; group(1, 1) = 0; reducedCost(0) = 5; reducedCost(1) = 0");
+        // Nodes 0 and 1 form a group, and none when it is contracted with the root 0.
+        run("begin(3, 2); addArc(1, 0, 1); addArc(0, 1, 2); addArc(2, 1, 9); groups() = 4; group(3, 0) = 3; group(3, 1) = 7;"
+                + " group(0, 1) = 1; group(0, 2) = 3; group(1, 2) = 3; cost() = 10; enteringArc(0) = 0; enteringArc(1) = 2;"
+                + " enteringArc(2) = NONE; addArc(0, 2, 4); setRoot(0); groups() = 3; cost() = 6; enteringArc(1) = 1;"
+                + " enteringArc(0) = NONE; group(0, 1) = 0; reducedCost(2) = 7; group(3, 0) = NONE; setRoot(2); groups() = 4; cost() = 10; reducedCost(0) = 0");
 
         says(TERMS, "If no arc enters it, there is no arborescence, and this is the end.");
         run("cost() = NO_ARBORESCENCE; isRecorded() = 0; runs() = 1");
@@ -243,6 +258,9 @@ public final class BoundaryTest {
         says(TERMS, "an arc is removed that is not in the arborescence;");
         run(CYCLE + "removeArc(4)" + STAYS);
         run(CYCLE + "removeArc(2)" + STAYS + "; enteringArc(1) = 0; enteringArc(2) = 1; enteringArc(3) = 2");
+        run("begin(3, 2); addArc(2, 1, 9); addArc(2, 1, 3); addArc(2, 0, 4); enteringArc(0) = 2; removeArc(0)" + STAYS
+                + "; enteringArc(0) = 1; enteringArc(1) = 0; cost() = 7");
+        run(star(8) + "addArc(1, 7, 1) = 7; cost() = 7; removeArc(7)" + STAYS + "; enteringArc(7) = 6");
         run(CYCLE + "removeArc(0)" + DROPPED);
         run(CYCLE + "removeArc(1)" + DROPPED);
         run(CYCLE + "removeArc(3)" + DROPPED);
@@ -264,6 +282,14 @@ public final class BoundaryTest {
         String two = "begin(2, 0); addArc(0, 1, 3); addArc(0, 1, 9); addArc(0, 1, 7); cost() = 3; ";
         run(two + "setCost(0, 7); reducedCost(2) = 0" + STAYS + "; enteringArc(1) = 0; cost() = 7");
         run(two + "setCost(0, 8)" + DROPPED + "; enteringArc(1) = 2; cost() = 7");
+        String first = "begin(2, 1); addArc(1, 0, 9); addArc(1, 0, 3); cost() = 3; ";
+        run(first + "setCost(1, 9); group(0, 1) = 9; reducedCost(0) = 0" + STAYS + "; enteringArc(0) = 1");
+        run(first + "setCost(1, 10)" + DROPPED + "; enteringArc(0) = 0");
+        // An arc that is gone does not count.
+        run("begin(2, 0); addArc(0, 1, 3); addArc(0, 1, 4); cost() = 3; removeArc(1); setCost(0, 9); isRecorded() = 1;"
+                + " reuses() = 2; cost() = 9");
+        run("begin(2, 0); addArc(0, 1, 3); 31 times addArc(0, 1, 4); cost() = 3; setCost(0, 4)" + STAYS);
+        run("begin(2, 0); addArc(0, 1, 3); 31 times addArc(0, 1, 4); cost() = 3; setCost(0, 5)" + DROPPED);
 
         says(TERMS, "the limit of a node is set.");
         run(CYCLE + "setLimit(0, 0)" + STAYS + "; cost() = 16");
@@ -319,6 +345,15 @@ public final class BoundaryTest {
         String equal = "begin(3, 0); addArc(1, 2, 4); addArc(0, 2, 4); addArc(2, 1, 4); addArc(0, 1, 4); setLimit(0, 1); ";
         run(equal + "limitedCost() = 8; limitedArc(1) = 2; limitedArc(2) = 1");
         run(equal + "setCost(3, 3); limitedCost() = 7; limitedArc(1) = 3; limitedArc(2) = 0");
+        // Of the arborescences 0 2, 0 3 and 1 2 the last is the cheapest.
+        run("begin(3, 0); addArc(0, 1, 9); addArc(2, 1, 1); addArc(0, 2, 2); addArc(1, 2, 1); limitedCost() = 3;"
+                + " limitedArc(1) = 1; limitedArc(2) = 2");
+        // Without arc 2, which would close a cycle with arc 0, arc 4 must be taken.
+        run("begin(4, 0); addArc(2, 1, 1); addArc(0, 2, 5); addArc(1, 2, 1); addArc(0, 3, 1); addArc(1, 3, 9); setLimit(0, 1);"
+                + " limitedCost() = 15; limitedArc(1) = 0; limitedArc(2) = 1; limitedArc(3) = 4");
+        run("begin(3, 2); addArc(2, 0, 5); addArc(1, 0, 2); addArc(2, 1, 4); addArc(0, 1, 1); limitedCost() = 6;"
+                + " limitedArc(0) = 0; limitedArc(1) = 3; limitedArc(2) = NONE; setLimit(0, 0); limitedCost() = 6;"
+                + " limitedArc(0) = 1; limitedArc(1) = 2; setLimit(1, 0); limitedCost() = 9; limitedArc(0) = 0; limitedArc(1) = 2");
         run("begin(2, 0); addArc(0, 1, 4); addArc(0, 1, 4); limitedArc(1) = 0; setCost(1, 3); limitedArc(1) = 1");
     }
 
@@ -326,6 +361,14 @@ public final class BoundaryTest {
         says(TERMS, "Each node has a price, 0 at first.");
         // In the first round, the priced costs are the costs, and no price is paid for a limit.
         run(star(4) + "setLimit(0, 1); priceBound(1, 20) = 3; price(0, 1, 20) = 20");
+
+        says(TERMS, "the bound of the round is the cost of the arborescence that the contraction finds for the priced costs "
+                + "(with the same numbers of arcs), minus the sum, over all nodes, of price times limit");
+        run(star(4) + "setLimit(0, 1); priceBound(2, 3) = 9; priceBound(20, 20) = 763");
+        run(star(4) + "setLimit(0, 2); priceBound(2, 3) = 6; priceBound(20, 20) = 383");
+        // At a price of 2, the arcs 0 and 1 cost the same: the one with the lowest number is found.
+        run("begin(3, 0); addArc(0, 2, 1); addArc(1, 2, 3); addArc(0, 1, 1); setLimit(0, 1); price(0, 1, 2) = 2;"
+                + " price(0, 2, 2) = 4; price(0, 3, 2) = 4; priceBound(2, 2) = 4; priceBound(3, 2) = 4");
 
         says(TERMS, "if it is the tail of more arcs of this arborescence than its limit says, its price increases by the "
                 + "step; if it is the tail of fewer, its price decreases by the step, but not below 0");
@@ -340,6 +383,10 @@ public final class BoundaryTest {
         run(turn + "price(1, 1, 3) = 3; price(1, 2, 3) = 6; price(1, 3, 3) = 3; price(1, 4, 3) = 6");
         run("begin(3, 0); addArc(0, 1, 1); addArc(0, 2, 1); addArc(1, 2, 3); setLimit(0, 1); setLimit(1, 1);"
                 + " price(0, 1, 3) = 3; price(0, 2, 3) = 3; price(0, 20, 3) = 3; price(1, 20, 3) = 0");
+
+        run("begin(3, 2); addArc(2, 0, 1); addArc(0, 1, 1); addArc(2, 1, 4); setLimit(0, 0); price(0, 1, 2) = 2;"
+                + " price(0, 2, 2) = 4; price(0, 3, 2) = 4; price(2, 20, 2) = 0; priceBound(20, 2) = 5; priceBound(1, 2) = 2;"
+                + " priceBound(2, 2) = 4");
 
         says(TERMS, "(These contractions are no runs, and the record does not change.)");
         run(CYCLE + "setLimit(0, 0); priceBound(20, 20); price(0, 20, 20); runs() = 1; isRecorded() = 1; cost() = 16;"
@@ -391,6 +438,7 @@ public final class BoundaryTest {
             fault(text, "" + (text.length() - 1));
             fault(text + "/0,0>1:1", "" + (text.length() - 1));
         }
+        everySign();
         fault("2/0,0>1:1x", "9");
         fault("2/0,0>1:12x", "10");
         fault("2/0,0>1:-1", "8");
@@ -433,6 +481,34 @@ public final class BoundaryTest {
         }
         fault("8/7" + ",0>7:5".repeat(31) + ",", "190");
         fault("8/7" + ",0>7:5".repeat(31) + ",0>7:", "194");
+    }
+
+    /** Behind each beginning of a text, every sign, with what could follow it. */
+    private static void everySign() {
+        String text = "4/2,0>3:7,3>1:12";
+        String[] may = {"2345678", "/", "0123", ",", "0123", ">", "123", ":", "0123456789", ",0123456789", "0123", ">", "012",
+            ":", "0123456789", "0123456789,"};
+        for (int at = 0; at < text.length(); at++) {
+            for (char sign = 32; sign <= 126; sign++) {
+                // The scripts part their calls by this one; a text below has it.
+                if (sign == ';') {
+                    continue;
+                }
+                String begun = text.substring(0, at) + sign;
+                if (may[at].indexOf(sign) < 0) {
+                    fault(begun, "" + at);
+                    fault(begun + text.substring(at), "" + at);
+                    fault(begun + text.substring(at + 1), "" + at);
+                    fault(begun + text.substring(3), "" + at);
+                } else if (at == 2 || at == 8 || at == 14 || at == 15 && sign != ',' || at == 9 && sign != ',') {
+                    fault(begun, "NONE");
+                } else {
+                    fault(begun, "" + (at + 1));
+                }
+            }
+            ArborescenceFinder x = made("text \"" + text.substring(0, at) + "\"; write(59); 9 times write(48)");
+            due("fault() of " + text.substring(0, at) + " and the sign 59", x.fault(), at);
+        }
     }
 
     /** The fault of a text, and that it is loaded or not. */
@@ -968,6 +1044,8 @@ public final class BoundaryTest {
                 + " secondBest(1) = 1; setCost(2, 5); secondBest(0) = 12; secondBest(1) = 3");
         // An arc that each arborescence contains is not the one.
         run("begin(3, 0); addArc(0, 1, 1); addArc(0, 2, 1); addArc(0, 2, 1); secondBest(0) = 2; secondBest(1) = 1");
+        run("begin(2, 0); 31 times addArc(1, 0, 1); addArc(0, 1, 1) = 31; secondBest(0) = NONE; removeArc(0); addArc(0, 1, 9);"
+                + " secondBest(0) = 9; secondBest(1) = 30");
         says(31, "`what`: 0 for the cost of this arborescence, 1 for the arc that is left out");
         refused("secondBest(2) = BAD_VALUE");
         refused("secondBest(-1) = BAD_VALUE");
@@ -989,6 +1067,7 @@ public final class BoundaryTest {
                 + "many.");
         run("begin(4, 0); addArc(0, 3, 1); addArc(3, 2, 1); addArc(2, 1, 1); necessary(0) = 0; necessary(1) = 1;"
                 + " necessary(2) = 2; necessary(3) = NONE; necessary(2147483647) = NONE");
+        run("begin(2, 0); 31 times addArc(1, 0, 1); addArc(0, 1, 1); necessary(0) = 31; necessary(1) = NONE");
         refusedWithRun("necessary(0) = NO_ARBORESCENCE", BARREN, NEW);
         refusedWithRun("necessary(2147483647) = NO_ARBORESCENCE", BARREN, NEW);
     }
@@ -1062,8 +1141,17 @@ public final class BoundaryTest {
                 + " 4 times addArc(0, 5, 1); 4 times addArc(0, 6, 1); 4 times addArc(0, 7, 1); arborescences() = 40000");
         run("begin(3, 0); addArc(1, 2, 1); addArc(2, 1, 1); arborescences() = 0; addArc(0, 1, 1); arborescences() = 1;"
                 + " setLimit(0, 0); arborescences() = 1");
+        // All arcs between 5 nodes, whichever is the root: 5 to the power of 3 (Cayley).
+        StringBuilder complete = new StringBuilder();
+        for (int arc = 0; arc < 20; arc++) {
+            complete.append("addArc(").append(arc / 4).append(", ").append(other(arc % 4, arc / 4)).append(", 1); ");
+        }
+        run(complete + "arborescences() = 125; setRoot(1); arborescences() = 125; setRoot(4); arborescences() = 125");
 
         says(38, "Returns the number of arborescences that contain it; BAD_ARC.");
+        // Each of the 10 pairs is joined in 50 of these trees; where the root is tells the direction.
+        run(complete + "arborescencesWith(0) = 50; arborescencesWith(4) = 0; setRoot(1); arborescencesWith(0) = 0;"
+                + " arborescencesWith(4) = 50; setRoot(4); arborescencesWith(0) = 25; arborescencesWith(4) = 25");
         run("begin(2, 0); 31 times addArc(0, 1, 1); addArc(1, 0, 1); arborescencesWith(0) = 1; arborescencesWith(30) = 1;"
                 + " arborescencesWith(31) = 0; arborescencesWith(32) = BAD_ARC");
         run("begin(3, 0); addArc(1, 2, 1); addArc(2, 1, 1); arborescencesWith(0) = 0; addArc(0, 1, 1); arborescencesWith(0) = 1;"
@@ -1096,6 +1184,8 @@ public final class BoundaryTest {
         run("9 times setLimit(0, 1); save(0); restore(0); 9 times setLimit(0, 2); undo() = 7; undo() = 6");
         run("begin(2, 0); addArc(0, 1, 3); save(0); cost(); setLimit(0, 1); write(50); restore(0) = 1; isRecorded() = 0;"
                 + " runs() = 1; reuses() = 1; wipe() = 1; limitedCost() = 3");
+        run("begin(2, 0); addArc(0, 1, 3); save(1); setCost(0, 8); limitedCost() = 8; restore(1); limitedCost() = 3;"
+                + " limitedArc(1) = 0");
         says(40, "`slot`: the slot, 0 or 1");
         refused("restore(2) = BAD_VALUE");
         refused("restore(-1) = BAD_VALUE");
