@@ -153,6 +153,22 @@ public final class BoundaryTest {
     }
 
     private static void contraction() {
+        says(TERMS, "an arc enters a group if its head is in the group and its tail is not");
+        // Group 4 has the nodes 1 and 2 and the dual value 7: arcs inside it and out of it do not pay it.
+        run(CYCLE + "group(4, 0) = 6; group(4, 1) = 7; reducedCost(1) = 0; reducedCost(2) = 0; reducedCost(3) = 0;"
+                + " addArc(1, 3, 99); reducedCost(5) = 95; addArc(2, 0, 50); reducedCost(6) = 50; addArc(3, 1, 99);"
+                + " reducedCost(7) = 89; addArc(1, 2, 99); reducedCost(8) = 97");
+
+        says(TERMS, "The reduced cost of an arc is its cost minus the sum of the dual values of all groups (on top or not) "
+                + "that it enters.");
+        // Into node 1 by three groups, one inside the other; into node 3 by the outer one and its own.
+        run("begin(4, 0); addArc(1, 2, 1); addArc(2, 1, 1); addArc(3, 1, 4); addArc(2, 3, 2); addArc(0, 3, 20);"
+                + " addArc(0, 1, 99); groups() = 6; group(1, 1) = 1; group(3, 1) = 2; group(4, 1) = 3; group(5, 1) = 18;"
+                + " reducedCost(5) = 77; reducedCost(4) = 0; reducedCost(2) = 0; reducedCost(3) = 0; group(4, 2) = 5");
+
+        says(TERMS, "A group that has not become a part of another one is on top.");
+        run(CYCLE + "group(0, 2) = NONE; group(1, 2) = 4; group(2, 2) = 4; group(3, 2) = NONE; group(4, 2) = NONE");
+
         says(TERMS, "At first each node forms a group of its own, with the number of the node.");
         run("begin(2, 0); addArc(0, 1, 3); groups() = 2; group(0, 0) = 1; group(1, 0) = 2; group(2, 0) = NONE");
         run(star(8) + "groups() = 8; group(0, 0) = 1; group(7, 0) = 128; group(8, 0) = NONE");
@@ -355,6 +371,9 @@ public final class BoundaryTest {
                 + " limitedArc(0) = 0; limitedArc(1) = 3; limitedArc(2) = NONE; setLimit(0, 0); limitedCost() = 6;"
                 + " limitedArc(0) = 1; limitedArc(1) = 2; setLimit(1, 0); limitedCost() = 9; limitedArc(0) = 0; limitedArc(1) = 2");
         run("begin(2, 0); addArc(0, 1, 4); addArc(0, 1, 4); limitedArc(1) = 0; setCost(1, 3); limitedArc(1) = 1");
+        // A dearer one that is lexicographically greater comes too late.
+        run("begin(2, 0); addArc(0, 1, 3); addArc(0, 1, 4); limitedCost() = 3; limitedArc(1) = 0; setCost(0, 5);"
+                + " limitedCost() = 4; limitedArc(1) = 1");
     }
 
     private static void prices() {
@@ -1042,6 +1061,10 @@ public final class BoundaryTest {
         run(CYCLE + "secondBest(0) = 19; secondBest(1) = 0");
         run("begin(3, 0); addArc(0, 2, 9); addArc(0, 2, 7); addArc(0, 1, 6); addArc(0, 1, 4); secondBest(0) = 13;"
                 + " secondBest(1) = 1; setCost(2, 5); secondBest(0) = 12; secondBest(1) = 3");
+        // The least may come before a greater one, and behind it.
+        run("begin(3, 0); addArc(0, 1, 4); addArc(0, 1, 5); addArc(0, 2, 4); addArc(0, 2, 9); secondBest(0) = 9;"
+                + " secondBest(1) = 0; setCost(1, 10); secondBest(0) = 13; secondBest(1) = 2; setCost(1, 9);"
+                + " secondBest(0) = 13; secondBest(1) = 0");
         // An arc that each arborescence contains is not the one.
         run("begin(3, 0); addArc(0, 1, 1); addArc(0, 2, 1); addArc(0, 2, 1); secondBest(0) = 2; secondBest(1) = 1");
         run("begin(2, 0); 31 times addArc(1, 0, 1); addArc(0, 1, 1) = 31; secondBest(0) = NONE; removeArc(0); addArc(0, 1, 9);"
