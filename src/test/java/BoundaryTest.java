@@ -259,6 +259,23 @@ public final class BoundaryTest {
         for (String call : NEED_NO_RECORD) {
             run(graph + call + "; isRecorded() = 0; runs() = 0; cost(); " + call + "; isRecorded() = 1; runs() = 1");
         }
+
+        says(TERMS, "(the methods under \"The cheapest arborescence\" and \"Slacks and alternatives\" below; such a "
+                + "contraction is a run)");
+        // Such a one makes the record. What a method finds out beside it is no run: in example 1 of the document
+        // slack(4) and secondBest(0) come behind cost(), and runs() is 1.
+        for (int arc = 0; arc < 5; arc++) {
+            for (String name : new String[] {"costWithout", "costWith", "slack"}) {
+                String call = name + "(" + arc + ")";
+                run(CYCLE + "runs() = 1; " + call + "; runs() = 1; setRoot(0); " + call + "; runs() = 2; isRecorded() = 1; "
+                        + call + "; runs() = 2; cost() = 16; runs() = 2");
+            }
+        }
+        for (String call : new String[] {"secondBest(0) = 19", "secondBest(1) = 0", "necessary(0) = 0", "necessary(2) = 3",
+                "necessary(3) = NONE", "group(99, 0) = NONE", "enteringArc(0) = NONE"}) {
+            run(CYCLE + "runs() = 1; " + call + "; runs() = 1; setRoot(0); " + call + "; runs() = 2; isRecorded() = 1; "
+                    + call + "; runs() = 2; cost() = 16; runs() = 2");
+        }
     }
 
     private static void recordStays() {
@@ -448,6 +465,13 @@ public final class BoundaryTest {
         fault("2/0,0>1:100", "10");
         fault("2/0,0>1:000", "10");
         run("text \"2/0,0>1:0,0>1:99,0>1:10\"; load() = 3; arc(0, 2) = 0; arc(1, 2) = 99; arc(2, 2) = 10");
+        // Two digits are as many as possible, whatever the first one is.
+        fault("2/0,0>1:00", "NONE");
+        fault("2/0,0>1:05", "NONE");
+        fault("2/0,0>1:055", "10");
+        fault("2/0,0>1:05,1>0:009", "17");
+        run("text \"2/0,0>1:05,1>0:00,0>1:09,0>1:5\"; load() = 4; arc(0, 2) = 5; arc(1, 2) = 0; arc(2, 2) = 9;"
+                + " arc(3, 2) = 5; cost() = 5; enteringArc(1) = 0");
     }
 
     private static void faults() {

@@ -37,6 +37,12 @@ public final class FaceTest {
         constructors(face);
         methods(face);
         classesInside(face);
+        staticFields(face);
+        sizes(face);
+        for (Class<?> inside : face.getDeclaredClasses()) {
+            staticFields(inside);
+            sizes(inside);
+        }
         System.out.println(wrong == 0 ? "the face is as due" : wrong + " members are not as due");
         if (wrong != 0) {
             System.exit(1);
@@ -99,7 +105,30 @@ public final class FaceTest {
         for (Class<?> inside : face.getDeclaredClasses()) {
             due(inside + " is static", Modifier.isStatic(inside.getModifiers()), true);
             due(inside + " is public", Modifier.isPublic(inside.getModifiers()), false);
-            due(inside + " has at most 20 fields", inside.getDeclaredFields().length <= 20, true);
+            due(inside + " is protected", Modifier.isProtected(inside.getModifiers()), false);
+            due(inside + " has no classes inside", inside.getDeclaredClasses().length, 0);
+        }
+    }
+
+    private static void staticFields(Class<?> any) {
+        Set<Class<?>> allowed = Set.of(int.class, long.class, boolean.class, char.class, String.class,
+                int[].class, long[].class, char[].class, byte[].class);
+        for (Field field : any.getDeclaredFields()) {
+            if (Modifier.isStatic(field.getModifiers())) {
+                due(field + " is final", Modifier.isFinal(field.getModifiers()), true);
+                due(field + " is of a type for constants", allowed.contains(field.getType()), true);
+            }
+        }
+    }
+
+    private static void sizes(Class<?> any) {
+        int fields = 0;
+        for (Field field : any.getDeclaredFields()) {
+            fields += Modifier.isStatic(field.getModifiers()) ? 0 : 1;
+        }
+        due(any + " has at most 20 fields", fields <= 20, true);
+        for (Method method : any.getDeclaredMethods()) {
+            due(method + " has at most 7 parameters", method.getParameterCount() <= 7, true);
         }
     }
 }
