@@ -40,6 +40,11 @@ public final class ModelTest {
             wrong += play.run();
             calls += play.log.size();
         }
+        for (int seed = 0; seed < 600 && wrong < 20; seed++) {
+            Play play = new Play(seed);
+            wrong += play.runPrices();
+            calls += play.log.size();
+        }
         System.out.println(calls + " calls compared, " + wrong + " runs with a wrong answer");
         if (wrong != 0) {
             System.exit(1);
@@ -80,6 +85,23 @@ public final class ModelTest {
                 }
             }
             return 0;
+        }
+
+        /** Narrow limits and many arcs, as a price seldom falls, and still more seldom not to 0. */
+        int runPrices() {
+            boolean same = call("begin", maxNodes, random.nextInt(maxNodes), 0);
+            for (int i = 0; i < 32 && same; i++) {
+                same = call("addArc", node(), node(), cost());
+            }
+            for (int v = 0; v < maxNodes && same; v++) {
+                same = call("setLimit", v, random.nextInt(3), 0);
+            }
+            for (int i = 0; i < 40 && same; i++) {
+                int step = 1 + random.nextInt(20);
+                int rounds = 1 + random.nextInt(20);
+                same = call("priceBound", rounds, step, 0) && call("price", node(), rounds, step);
+            }
+            return same ? 0 : 1;
         }
 
         boolean step() {
